@@ -71,6 +71,8 @@ public final class CourseTest {
         DUE.is("once that is done", x.open(), 2);
         x.needs(2, 5);
         DUE.is("it needs one without a law", x.open(), NONE);
+        Due.law(x, 0, "a");
+        DUE.is("the first of all", x.open(), 0);
     }
 
     private static void begin() {
@@ -103,7 +105,7 @@ public final class CourseTest {
         x.set(1, 1);
         for (int turn = 0; turn < 2; turn++) {
             x.answer(1, 0);
-            x.answer(2, 0);
+            x.answer(2, 1);
             Due.say(x, "c");
             Due.feed(x, "a");
             DUE.is("answers", x.count(1), 2);

@@ -111,8 +111,9 @@ public final class SaidTest {
         x.answer(4, 1);
         clash(x, "answers alone", NONE, NONE, NONE);
         Due.say(x, "a");
+        clash(x, "an answer, one said", 4, 0, NONE);
         Due.say(x, "a&1");
-        clash(x, "an answer", 4, 0, NONE);
+        clash(x, "an answer, two said alike", 4, 0, NONE);
         x.answer(2, 1);
         clash(x, "the least case", 2, 0, NONE);
         x.answer(2, 0);
