@@ -15,16 +15,6 @@ public final class CourseTest {
         DUE.end();
     }
 
-    /** An object whose lessons 0 to 5 have the law 1, and that are done by one answer each. */
-    private static AskedBack quick() {
-        AskedBack x = new AskedBack();
-        for (int lesson = 0; lesson < 6; lesson++) {
-            Due.law(x, lesson, "1");
-        }
-        x.set(2, 1);
-        return x;
-    }
-
     private static void needs() {
         AskedBack x = new AskedBack();
         int[][] outside = {{-1, 0}, {0, -1}, {6, 0}, {0, 6}, {Integer.MIN_VALUE, Integer.MAX_VALUE}};
@@ -76,7 +66,7 @@ public final class CourseTest {
     }
 
     private static void begin() {
-        AskedBack x = quick();
+        AskedBack x = Due.quick();
         DUE.no("begin -1", x.begin(-1));
         DUE.no("begin 6", x.begin(6));
         DUE.no("begin far outside", x.begin(Integer.MAX_VALUE));

@@ -4,18 +4,24 @@ import java.util.Arrays;
 /** Counts answers that are not as due, and puts texts on an object's tape. */
 final class Due {
     private int wrong = 0;
+    private String sentence = "";
+
+    /** The document's sentence that the answers from here on belong to: it is printed with each wrong one. */
+    void sentence(String words) {
+        sentence = "[" + words + "] ";
+    }
 
     void is(String what, long got, long want) {
         if (got != want) {
             wrong++;
-            System.out.println(what + " answered " + got + ", due is " + want);
+            System.out.println(sentence + what + " answered " + got + ", due is " + want);
         }
     }
 
     void is(String what, String got, String want) {
         if (!got.equals(want)) {
             wrong++;
-            System.out.println(what + " answered \"" + got + "\", due is \"" + want + "\"");
+            System.out.println(sentence + what + " answered \"" + got + "\", due is \"" + want + "\"");
         }
     }
 
@@ -89,6 +95,20 @@ final class Due {
         return text.toString();
     }
 
+    /** The fault's place of a text that a new object reads as a law. */
+    static int faultOf(String text) {
+        AskedBack x = new AskedBack();
+        law(x, 0, text);
+        return x.fault();
+    }
+
+    /** A text as a new object writes it. */
+    static String writtenAnew(String text) {
+        AskedBack x = new AskedBack();
+        law(x, 0, text);
+        return written(x, 0, AskedBack.NONE);
+    }
+
     /** A new object whose lesson 0 has a law and pictures and is begun. */
     static AskedBack begun(String law, String... pictures) {
         AskedBack x = new AskedBack();
@@ -97,6 +117,16 @@ final class Due {
             picture(x, 0, picture);
         }
         x.begin(0);
+        return x;
+    }
+
+    /** A new object whose lessons 0 to 5 have the law 1 and are done by one right answer each. */
+    static AskedBack quick() {
+        AskedBack x = new AskedBack();
+        for (int lesson = 0; lesson < 6; lesson++) {
+            law(x, lesson, "1");
+        }
+        x.set(2, 1);
         return x;
     }
 }
