@@ -21,7 +21,9 @@ public final class LanguageTest {
         face();
         namesInside();
         staticState();
-        words(Files.readString(Path.of("src/main/java/AskedBack.java")));
+        String source = Files.readString(Path.of("src/main/java/AskedBack.java"));
+        words(source);
+        methodLengths(source);
         DUE.end();
     }
 
@@ -62,14 +64,19 @@ public final class LanguageTest {
     }
 
     private static void staticState() {
-        for (Field field : AskedBack.class.getDeclaredFields()) {
-            finalIfStatic(field);
-        }
+        fieldsOf(AskedBack.class);
         for (Class<?> inside : AskedBack.class.getDeclaredClasses()) {
-            for (Field field : inside.getDeclaredFields()) {
-                finalIfStatic(field);
-            }
+            fieldsOf(inside);
         }
+    }
+
+    private static void fieldsOf(Class<?> owner) {
+        int own = 0;
+        for (Field field : owner.getDeclaredFields()) {
+            finalIfStatic(field);
+            own += Modifier.isStatic(field.getModifiers()) ? 0 : 1;
+        }
+        DUE.yes(owner.getName() + " has at most twenty fields", own <= 20);
     }
 
     private static void finalIfStatic(Field field) {
@@ -89,5 +96,17 @@ public final class LanguageTest {
             DUE.yes("import " + imports.group(1),
                 Set.of("java.util.Arrays", "java.util.ArrayList", "java.util.List").contains(imports.group(1)));
         }
+    }
+
+    /** A method goes from the line that opens it to the closing bracket at the same indent. */
+    private static void methodLengths(String source) {
+        Matcher method = Pattern.compile("(?m)^( {4}| {8})(?! )(?!.*\\bclass\\b)[^\n=/*]*\\) \\{\n(?s:.*?)^\\1\\}").matcher(source);
+        int seen = 0;
+        while (method.find()) {
+            String whole = method.group();
+            seen++;
+            DUE.yes(whole.substring(0, whole.indexOf('\n')).trim() + " has at most sixty lines", whole.split("\n").length <= 60);
+        }
+        DUE.yes("the methods were found", seen > FACE.size());
     }
 }
